@@ -569,7 +569,7 @@ public final class ProductLineChecker {
 
     /** The fields and methods; a parameter that is not there has the type NONE. */
     private static final class Members {
-        private final Conditions conditions = new Conditions(MAX_MEMBERS);
+        final Conditions conditions = new Conditions(MAX_MEMBERS);
         private final Row sorts = new Row(MAX_MEMBERS);
         private final Row owners = new Row(MAX_MEMBERS);
         private final Row names = new Row(MAX_MEMBERS);
@@ -692,14 +692,14 @@ public final class ProductLineChecker {
 
     /** All that has been added, as it stands for all products together. */
     private static final class Program {
-        private final Conditions classes = new Conditions(MAX_CLASSES);
-        private final Conditions links = new Conditions(MAX_LINKS);
-        private final Row linkClasses = new Row(MAX_LINKS);
-        private final Row linkParents = new Row(MAX_LINKS);
-        private final Members members = new Members();
-        private final Expressions expressions = new Expressions();
-        private final Conditions results = new Conditions(MAX_RESULTS);
-        private final Row resultExpressions = new Row(MAX_RESULTS);
+        final Conditions classes = new Conditions(MAX_CLASSES);
+        final Conditions links = new Conditions(MAX_LINKS);
+        final Row linkClasses = new Row(MAX_LINKS);
+        final Row linkParents = new Row(MAX_LINKS);
+        final Members members = new Members();
+        final Expressions expressions = new Expressions();
+        final Conditions results = new Conditions(MAX_RESULTS);
+        final Row resultExpressions = new Row(MAX_RESULTS);
 
         int appendLink(int of, int parent, int on, int off) {
             int number = links.append(on, off);

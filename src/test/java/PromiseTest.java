@@ -406,6 +406,9 @@ public final class PromiseTest {
             due.is("setCondition to the same again", x.setCondition(sort, 0, 1, 0), false);
             due.is("setCondition to another off", x.setCondition(sort, 0, 1, 8), true);
             due.is("presence after another off", x.presence(sort, 0), WITH_0 & ~WITH_3);
+            due.is("setCondition to the same off again", x.setCondition(sort, 0, 1, 8), false);
+            due.is("setCondition of off back alone", x.setCondition(sort, 0, 1, 0), true);
+            due.is("presence after off is back alone", x.presence(sort, 0), WITH_0);
             due.is("setCondition back", x.setCondition(sort, 0, 0, 0), true);
             due.is("presence after setCondition back", x.presence(sort, 0), ALL);
         }
@@ -518,6 +521,16 @@ public final class PromiseTest {
         due.is("isBelow where there is no ring", x.isBelow(7, 6, 0), false);
         x.setCondition(0, 4, 0, 2);
         due.is("isBelow across a class that is not there", x.isBelow(3, 5, 2), false);
+        ProductLineChecker ring = new ProductLineChecker();
+        for (int of = 0; of < 8; of++) {
+            ring.addClass(0, 0);
+        }
+        for (int of = 0; of < 8; of++) {
+            ring.addLink(of, (of + 1) % 8, 0, 0);
+        }
+        for (int of = 0; of < 8; of++) {
+            due.is("isBelow of itself in a ring of all classes", ring.isBelow(of, of, 0), true);
+        }
         x.addRule(1, 3, 3);
         due.throwing("isBelow(-1, 0, 0)", INDEX, x, () -> x.isBelow(-1, 0, 0));
         due.throwing("isBelow(8, 0, 0)", INDEX, x, () -> x.isBelow(8, 0, 0));
@@ -645,6 +658,12 @@ public final class PromiseTest {
         }
         int e = x.addCall(0, 0, 3, -1);
         due.is("type of CALL with an argument too many", x.typeOf(e, 0), -1);
+        x.addMethod(0, 2, 1, 0, -1, 0, 0);
+        int zero = x.addCall(0, 2, 0, -1);
+        due.is("type of CALL with a parameter of class 0", x.typeOf(zero, 0), 1);
+        due.is("type of CALL with another for class 0", x.typeOf(x.addCall(0, 2, 1, -1), 1), -1);
+        due.is("type of CALL with another NEW of class 0",
+                x.typeOf(x.addCall(0, 2, x.addNew(0, 0), -1), 0), 1);
     }
 
     private static void promise23() {
@@ -694,6 +713,7 @@ public final class PromiseTest {
         x.addClass(0, 2);
         x.addClass(0, 0);
         x.addField(0, 0, 8, 2, 0);
+        x.addField(2, 0, 8, 0, 0);
         areErrors("a member without class", x, new int[][] {{4, 0, WITH_1 & ~WITH_0}});
         ProductLineChecker types = new ProductLineChecker();
         types.addClass(0, 0);
@@ -778,6 +798,9 @@ public final class PromiseTest {
         x.addLink(2, 2, 1, 0);
         x.addLink(1, 1, 2, 0);
         areErrors("two classes", x, new int[][] {{3, 1, WITH_1}, {3, 2, WITH_0}});
+        x.setCondition(1, 0, 4, 0);
+        due.is("error asked for at once after a change", x.error(1, 2), WITH_2);
+        x.setCondition(1, 0, 1, 0);
         due.throwing("error(-1, 0)", INDEX, x, () -> x.error(-1, 0));
         due.throwing("error(2, 0)", INDEX, x, () -> x.error(2, 0));
         due.throwing("error(0, -1)", INDEX, x, () -> x.error(0, -1));
@@ -806,6 +829,9 @@ public final class PromiseTest {
         x.addLink(0, 0, 3, 0);
         x.addLink(1, 1, 0, 4);
         due.is("errorsIn(3)", x.errorsIn(3), 2);
+        x.setCondition(1, 1, 0, 2);
+        due.is("errorsIn asked for at once after a change", x.errorsIn(3), 1);
+        x.setCondition(1, 1, 0, 4);
         due.is("errorsIn(7)", x.errorsIn(7), 1);
         due.is("errorsIn(0)", x.errorsIn(0), 1);
         due.is("errorsIn(4)", x.errorsIn(4), 0);
