@@ -18,6 +18,7 @@ public final class ErrorEdgesTest {
         presenceOfLinks();
         presenceOfMembersAndResults();
         fitting();
+        fittingOfAllTypes();
         firstMemberThatIsFound();
         typesWithoutMethod();
         typesOfWhatHasErrors();
@@ -118,6 +119,27 @@ public final class ErrorEdgesTest {
                 x.addResult(0, 0, 0);
                 boolean fits = type == other || type < other && other <= 2;
                 areErrors(first + " as a result of type " + second, x, oneIf(!fits, 12, 0, ALL));
+            }
+        }
+    }
+
+    /** All classes in a chain, upwards and downwards, so that 0 and 7 are each once above all others. */
+    private static void fittingOfAllTypes() {
+        for (int step = -1; step <= 1; step += 2) {
+            for (int type = 0; type <= 8; type++) {
+                for (int other = 0; other <= 8; other++) {
+                    ProductLineChecker x = withClasses(8);
+                    for (int of = 0; of <= 7; of++) {
+                        if (of + step >= 0 && of + step <= 7) {
+                            x.addLink(of, of + step, 0, 0);
+                        }
+                    }
+                    x.addMethod(0, 0, other, type, NONE, 0, 0);
+                    x.addArgument(0, 0);
+                    x.addResult(0, 0, 0);
+                    boolean fits = type == other || type < 8 && other < 8 && type < other == step > 0;
+                    areErrors(type + " for " + other + " in a chain", x, oneIf(!fits, 12, 0, ALL));
+                }
             }
         }
     }

@@ -4,6 +4,7 @@ import java.util.List;
 /** Many made-up runs, each answer compared with that of the Model; the same runs every time. */
 public final class ModelTest {
     private static final int RUNS = 400;
+    private static final int CALLS = 512;
     private static final Class<?> INDEX = IndexOutOfBoundsException.class;
     private static final Class<?> ARGUMENT = IllegalArgumentException.class;
     private static final Class<?> STATE = IllegalStateException.class;
@@ -19,15 +20,19 @@ public final class ModelTest {
     private static ProductLineChecker x;
     private static Model m;
     private static int strangeness;
+    private static final List<Answer> changes = new ArrayList<>();
+    private static boolean isChanging;
+    private static int calls;
 
     public static void main(String[] args) {
         for (int run = 0; run < RUNS; run++) {
-            x = new ProductLineChecker();
-            m = new Model();
+            begin();
             strangeness = run % 4 == 0 ? 10 : 0;
             int steps = 20 + any(180);
             for (int step = 0; step < steps; step++) {
+                isChanging = true;
                 change(run < 10 ? any(14) : weighted());
+                isChanging = false;
                 if (any(12) == 0) {
                     compareSome();
                 }
@@ -40,6 +45,25 @@ public final class ModelTest {
             }
         }
         due.end();
+    }
+
+    private static void begin() {
+        x = new ProductLineChecker();
+        m = new Model();
+        changes.clear();
+        calls = 0;
+    }
+
+    /** The document promises nothing after an object's last call: another one then goes on from the same state. */
+    private static void countCall() {
+        if (calls == CALLS) {
+            x = new ProductLineChecker();
+            for (Answer change : changes) {
+                Due.thrownBy(() -> change.get());
+            }
+            calls = changes.size();
+        }
+        calls++;
     }
 
     /** A number from 0 to below the bound. */
@@ -120,6 +144,10 @@ public final class ModelTest {
 
     /** Compares a call that is to throw, or to answer; tells whether it is to answer. */
     private static boolean compare(String call, Class<?> wanted, long want, Answer answer) {
+        countCall();
+        if (isChanging) {
+            changes.add(answer);
+        }
         long[] got = new long[1];
         Class<?> thrown = Due.thrownBy(() -> got[0] = answer.get());
         if (thrown != wanted) {
@@ -364,6 +392,7 @@ public final class ModelTest {
         }
         compare("right", null, right, () -> x.right());
         compare("culprit", null, m.culprit(right), () -> x.culprit());
+        countCall();
         due.is("share", x.share(), (double) Integer.bitCount(right) / Integer.bitCount(products));
         compareProducts(errors);
         compareElements();

@@ -386,35 +386,45 @@ public final class PromiseTest {
         due.throwing("addResult without condition beyond 16", ARGUMENT, x, () -> x.addResult(0, 4, 4));
     }
 
-    private static void promise15() {
+    /** withMethod, with a link and a result too. */
+    private static ProductLineChecker withEachSort() {
         ProductLineChecker x = withMethod();
         x.addLink(0, 1, 0, 0);
         x.addPlain(0, false);
         x.addResult(0, 0, 0);
-        int[] sizes = {3, 1, 2, 1};
+        return x;
+    }
+
+    private static void promise15() {
+        ProductLineChecker x = withEachSort();
         due.throwing("setCondition(-1, ..)", INDEX, x, () -> x.setCondition(-1, 0, 0, 0));
         due.throwing("setCondition(4, ..)", INDEX, x, () -> x.setCondition(4, 0, 0, 0));
-        for (int i = 0; i < 4; i++) {
-            int sort = i;
-            due.throwing("setCondition of -1", INDEX, x, () -> x.setCondition(sort, -1, 0, 0));
-            due.throwing("setCondition beyond", INDEX, x, () -> x.setCondition(sort, sizes[sort], 0, 0));
-            due.throwing("setCondition beyond, wrong", INDEX, x, () -> x.setCondition(sort, sizes[sort], 1, 1));
-            refusesConditions("setCondition", x, (on, off) -> x.setCondition(sort, 0, on, off));
-            due.is("setCondition to the same", x.setCondition(sort, 0, 0, 0), false);
-            due.is("setCondition to another on", x.setCondition(sort, 0, 1, 0), true);
-            due.is("presence after setCondition", x.presence(sort, 0), WITH_0);
-            due.is("setCondition to the same again", x.setCondition(sort, 0, 1, 0), false);
-            due.is("setCondition to another off", x.setCondition(sort, 0, 1, 8), true);
-            due.is("presence after another off", x.presence(sort, 0), WITH_0 & ~WITH_3);
-            due.is("setCondition to the same off again", x.setCondition(sort, 0, 1, 8), false);
-            due.is("setCondition of off back alone", x.setCondition(sort, 0, 1, 0), true);
-            due.is("presence after off is back alone", x.presence(sort, 0), WITH_0);
-            due.is("setCondition back", x.setCondition(sort, 0, 0, 0), true);
-            due.is("presence after setCondition back", x.presence(sort, 0), ALL);
-        }
         x.setCondition(0, 2, 2, 0);
         due.is("presence of the class that is set", x.presence(0, 2), WITH_1);
         due.is("presence of a class that is not set", x.presence(0, 1), ALL);
+        int[] sizes = {3, 1, 2, 1};
+        for (int sort = 0; sort < 4; sort++) {
+            promise15Of(sort, sizes[sort]);
+        }
+    }
+
+    private static void promise15Of(int sort, int size) {
+        ProductLineChecker x = withEachSort();
+        due.throwing("setCondition of -1", INDEX, x, () -> x.setCondition(sort, -1, 0, 0));
+        due.throwing("setCondition beyond", INDEX, x, () -> x.setCondition(sort, size, 0, 0));
+        due.throwing("setCondition beyond, wrong", INDEX, x, () -> x.setCondition(sort, size, 1, 1));
+        refusesConditions("setCondition", x, (on, off) -> x.setCondition(sort, 0, on, off));
+        due.is("setCondition to the same", x.setCondition(sort, 0, 0, 0), false);
+        due.is("setCondition to another on", x.setCondition(sort, 0, 1, 0), true);
+        due.is("presence after setCondition", x.presence(sort, 0), WITH_0);
+        due.is("setCondition to the same again", x.setCondition(sort, 0, 1, 0), false);
+        due.is("setCondition to another off", x.setCondition(sort, 0, 1, 8), true);
+        due.is("presence after another off", x.presence(sort, 0), WITH_0 & ~WITH_3);
+        due.is("setCondition to the same off again", x.setCondition(sort, 0, 1, 8), false);
+        due.is("setCondition of off back alone", x.setCondition(sort, 0, 1, 0), true);
+        due.is("presence after off is back alone", x.presence(sort, 0), WITH_0);
+        due.is("setCondition back", x.setCondition(sort, 0, 0, 0), true);
+        due.is("presence after setCondition back", x.presence(sort, 0), ALL);
     }
 
     private static void promise16() {
